@@ -68,9 +68,9 @@ public final class HourTest {
     }
 
     private static void millDraws() {
-        int[] marks = {60, 59, 56, 55, 51, 50, 49, 0};
-        int[] draws = {0, 1, 4, 5, 9, 10, 10, 10};
-        int[] coins = {0, 0, 0, 1, 1, 2, 2, 2};
+        int[] marks = {100, 61, 60, 59, 56, 55, 51, 50, 49, 0};
+        int[] draws = {0, 0, 0, 1, 4, 5, 9, 10, 10, 10};
+        int[] coins = {0, 0, 0, 0, 0, 1, 1, 2, 2, 2};
         for (int i = 0; i < marks.length; i++) {
             LockBank x = Scenes.withSpring(0);
             x.setMill(3, marks[i]);

@@ -131,6 +131,12 @@ public final class LookAheadTest {
         Checks.due("advise(40)", x.advise(40), 0);
         Checks.due("count(8)", x.count(8), 100);
 
+        // Out of 48, 38 is the greatest mark for 2 coins: 30 of those that are looked at.
+        LockBank y = Scenes.withPoundDrawnTo(5, 48, false);
+        y.setMill(5, 3);
+        Checks.due("advise(1) out of 48", y.advise(1), 30);
+        Checks.due("advise(2) out of 48", y.advise(2), 20);
+
         // Three fillings take the pound 5 from 60 to 24, at a fee of 20 each: the mill that draws one
         // of them away loses more than it earns. Marks up to 40 leave fewer than 32 for the third.
         LockBank z = Scenes.withSpring(0);

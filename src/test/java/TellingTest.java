@@ -73,6 +73,7 @@ public final class TellingTest {
         x.barge(4, 4, 9);
         x.barge(4, 3, 0);
         Checks.due("lock(3, 4) with one that has come and a poor one", x.lock(3, 4), -1);
+        Checks.due("lock(3, 1) with one that has come and a poor one", x.lock(3, 1), 1);
         x.barge(4, 3, 9);
         Checks.due("lock(3, 4) with one that does not fit", x.lock(3, 4), 2);
         x.barge(3, 4, 9);
