@@ -327,7 +327,9 @@ public final class LockBank {
             System.arraycopy(other.level, 0, level, 0, POUNDS);
             System.arraycopy(other.ranOver, 0, ranOver, 0, POUNDS);
             System.arraycopy(other.drawn, 0, drawn, 0, POUNDS);
-            System.arraycopy(other.full, 0, full, 0, LOCKS);
+            for (int k = 0; k < LOCKS; k++) {
+                full[k] = other.full[k];
+            }
             System.arraycopy(other.lockings, 0, lockings, 0, LOCKS);
             System.arraycopy(other.filled, 0, filled, 0, LOCKS);
             barges = other.barges;

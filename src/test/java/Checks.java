@@ -5,35 +5,53 @@ final class Checks {
         long on(LockBank x);
     }
 
+    private static String sentence = "";
     private static int wrong = 0;
     private static int checked = 0;
+
+    static {
+        // A call that throws unasked ends its test: this is printed with the sentence, too.
+        Thread.setDefaultUncaughtExceptionHandler((thread, e) -> {
+            System.out.println(sentence + "a call threw that is to answer");
+            e.printStackTrace(System.out);
+        });
+    }
 
     private Checks() {
     }
 
+    /** From here on this sentence of the document is tried: wrong answers are printed with it. */
+    static void sentence(int promise, String words) {
+        sentence = "promise " + promise + ", \"" + words + "\": ";
+    }
+
+    /** The numbers beside a range: just too small, just too large, and as far away as can be. */
+    static int[] outside(int least, int greatest) {
+        return new int[] {least - 1, greatest + 1, Integer.MIN_VALUE, Integer.MAX_VALUE};
+    }
+
     static void due(String call, long got, long want) {
-        checked++;
-        if (got != want) {
-            wrong++;
-            System.out.println(call + " answered " + got + ", due is " + want);
-        }
+        look(got == want, call + " answered " + got + ", due is " + want);
     }
 
     static void due(String call, boolean got, boolean want) {
-        due(call, got ? 1L : 0L, want ? 1L : 0L);
+        look(got == want, call + " answered " + got + ", due is " + want);
     }
 
     static void dueDouble(String call, double got, double want) {
+        look(got == want, call + " answered " + got + ", due is " + want);
+    }
+
+    private static void look(boolean right, String what) {
         checked++;
-        if (got != want) {
+        if (!right) {
             wrong++;
-            System.out.println(call + " answered " + got + ", due is " + want);
+            System.out.println(sentence + what);
         }
     }
 
     /** The call must throw just this kind, and must change nothing. */
     static void dueThrow(LockBank x, Class<? extends RuntimeException> kind, String call, Call c) {
-        checked++;
         long before = x.digest();
         String got = "answered";
         try {
@@ -41,10 +59,7 @@ final class Checks {
         } catch (RuntimeException e) {
             got = e.getClass().getSimpleName();
         }
-        if (!got.equals(kind.getSimpleName())) {
-            wrong++;
-            System.out.println(call + " " + got + ", due is " + kind.getSimpleName());
-        }
+        look(got.equals(kind.getSimpleName()), call + " " + got + ", due is " + kind.getSimpleName());
         due("digest() behind " + call + ", which throws", x.digest(), before);
     }
 
@@ -70,6 +85,13 @@ final class Checks {
     static void duePounds(LockBank x, String when, int... waters) {
         for (int p = 0; p < waters.length; p++) {
             due("pound(" + p + ", 0) " + when, x.pound(p, 0), waters[p]);
+        }
+    }
+
+    /** What told() tells of a barge, from 0 on. */
+    static void dueBarge(LockBank x, int barge, int... told) {
+        for (int what = 0; what < told.length; what++) {
+            due("told(" + barge + ", " + what + ")", x.told(barge, what), told[what]);
         }
     }
 

@@ -7,7 +7,7 @@ public final class ModelTest {
         "barge", "send", "told", "pound", "lock", "count", "pass", "arrives", "foresee", "advise", "stops",
         "mean", "digest"};
     private static final int RUNS = 300;
-    private static final int CALLS = 200;
+    private static final int CALLS = 256;
 
     public static void main(String[] args) {
         for (int run = 0; run < RUNS; run++) {

@@ -6,10 +6,14 @@ final class Scenes {
     /** A new canal whose spring gives the same water in all hours. */
     static LockBank withSpring(int by) {
         LockBank x = new LockBank();
+        setAllHours(x, by);
+        return x;
+    }
+
+    static void setAllHours(LockBank x, int by) {
         for (int hour = 0; hour < 8; hour++) {
             x.setSpring(hour, by);
         }
-        return x;
     }
 
     /**
@@ -27,17 +31,29 @@ final class Scenes {
     }
 
     /**
-     * A canal without a spring and a mill, in the hour 6, whose mill has drawn a pound down to a water of
-     * 0 to 48; the chamber of the lock below it is full or empty.
+     * A canal without a spring, a mill and barges, with any waters (of the pounds 0 to 5, in this order)
+     * and the chambers of these locks full. The hour is 72, so 0 in the table of the spring. All pounds
+     * were at the brim, and a mill drew them down from the top: the bank has 2 coins for each 10 it drew.
      */
-    static LockBank withPoundDrawnTo(int pound, int water, boolean full) {
-        LockBank x = withSpring(0);
-        if (full) {
-            x.work(pound - 1);
+    static LockBank withWaters(int[] waters, int... full) {
+        LockBank x = withSpring(30);
+        for (int lock : full) {
+            x.work(lock);
         }
-        x.setMill(pound, water);
-        x.pass(6);
+        x.pass(12);
+        setAllHours(x, 0);
+        for (int pound = 5; pound >= 0; pound--) {
+            x.setMill(pound, waters[pound]);
+            x.pass(10);
+        }
         x.setMill(-1, 50);
         return x;
+    }
+
+    /** As withWaters, with the same water in all pounds but one. */
+    static LockBank withOneAt(int pound, int water, int others, int... full) {
+        int[] waters = {others, others, others, others, others, others};
+        waters[pound] = water;
+        return withWaters(waters, full);
     }
 }
